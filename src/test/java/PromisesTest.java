@@ -308,6 +308,13 @@ public final class PromisesTest {
         due("14: two figures", x.count(2), 5);
         due("14: tokens without blanks", readText(x, "net1 2;wide3 4;"), 2);
         due("14: told so", x.clause(3, 0), 4);
+        StringBuilder most = new StringBuilder("net0 0;");
+        for (int i = 0; i < 17; i++) {
+            most.append("wide0 9;");
+        }
+        due("14: as many items as there may be", readText(x, most.toString()), 18);
+        due("14: with blanks to the end", readText(x, most + "       "), 18);
+        due("14: a text that is full", x.count(7), 150);
         due("14: no refusals but the undo", x.status(0) + x.status(2), 0);
     }
 
@@ -321,7 +328,8 @@ public final class PromisesTest {
             {"net 1 2; knot 1 1 1 1", 21}, {"net 1 2; wide 1 001;", 16}, {"net -1 2;", 4},
             {"net 1 2;\n", 8}, {"net 1 2;wid", 8}, {"net 1 2;wide", 12}, {"net 1 2;rope 1;", 8},
             {"net 1 2;wide a 1;", 13}, {"net 1 2;wide 1 1:", 16}, {"net 3 2;wide 99 1;!", 18},
-            {"netknot 1 2;", 0}, {"net 1 2;wide 123456789012 1;", 13},
+            {"netknot 1 2;", 0}, {"netz 1 2;", 0}, {"neta 1 2;", 0}, {"net{1 2;", 3}, {"net`1 2;", 3},
+            {"net 1/2;", 5}, {"net 1 2:", 7}, {"net 1 2;wide 123456789012 1;", 13},
         };
         NetLaw x = new NetLaw();
         x.tie(3, 3, 3, 2);
@@ -526,6 +534,23 @@ public final class PromisesTest {
         due("20: a splice as it is now", x.least(0, 0, -1), 2);
         due("20: splice gets none", x.least(0, 0, 0), 0);
         due("20: the right one 2", x.least(0, 0, 1), 2);
+        x.net(0, 0);
+        x.tie(1, 0, 1, 0);
+        x.tie(5, 2, 1, 0);
+        due("20: the cheaper of two shared", x.least(0, 1, -1), 3);
+        due("20: it gets 3", x.least(1, 0, 5), 3);
+        x.net(0, 0);
+        x.tie(0, 4, 1, 0);
+        x.tie(5, 0, 1, 0);
+        x.tie(10, 0, 4, 0);
+        // Clause 0 wants 3, clause 4 wants 4; by the shared knot 4, or 3 and 1 of knot 10: the first row.
+        due("20: shared and own", x.least(0, 4, -1), 4);
+        due("20: the lead none", x.least(0, 4, 0), 0);
+        due("20: the shared 3", x.least(0, 4, 5), 3);
+        due("20: the own 1", x.least(0, 4, 10), 1);
+        x.net(0, 0);
+        x.tie(0, 5, 1, 0);
+        x.tie(1, 0, 5, 0);
         due("20: twine as now is free", x.count(2), 0);
         due("20: nothing changes", x.of(1, 1), 5);
         due("20: a 9", x.least(9, 0, 0), -10);
