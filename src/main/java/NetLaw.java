@@ -13,6 +13,7 @@ public final class NetLaw {
     private static final int IMAGES = 2, COUNTS = 8;
     private static final int MOST_SEED = 999999, MOST_NIGHTS = 30;
     private static final int ODDS_WHOLE = 10, LAW_GAIN = 10, NO_KNOT = 16, CHOICES = 5;
+    private static final int AS_BAD = 0, AS_NO = 1, AS_FULL = 2, REASONS = 3;
     private static final int BAD_BY_TEN = -10, NO_BY_TWENTY = -20, NO_MENDING = -5;
     private static final int FAULT_ANSWER = -10, ITEM_ANSWER = -1000;
 
@@ -22,7 +23,7 @@ public final class NetLaw {
     private final Image[] images = new Image[IMAGES];
     private final Text text = new Text();
     private final Fraction fraction = new Fraction();
-    private final int[] refusals = new int[3];
+    private final int[] refusals = new int[REASONS];
 
     // Room for what is only supposed: made once, so that no call makes anything.
     private final Net trial = new Net();
@@ -330,7 +331,7 @@ public final class NetLaw {
             return badByTen();
         }
         if (!net.isHole(knot)) {
-            return refuse(1, NO_BY_TWENTY);
+            return refuse(AS_NO, NO_BY_TWENTY);
         }
         int pairs = 0;
         int first = NONE;
@@ -438,8 +439,8 @@ public final class NetLaw {
     }
 
     public int status(int what) {
-        if (!within(what, 0, 2)) {
-            return refuse(0, NONE);
+        if (!within(what, 0, REASONS - 1)) {
+            return refuse(AS_BAD, NONE);
         }
         return refusals[what];
     }
@@ -467,19 +468,19 @@ public final class NetLaw {
     }
 
     private int bad() {
-        return refuse(0, BAD);
+        return refuse(AS_BAD, BAD);
     }
 
     private int badByTen() {
-        return refuse(0, BAD_BY_TEN);
+        return refuse(AS_BAD, BAD_BY_TEN);
     }
 
     private int no() {
-        return refuse(1, NO);
+        return refuse(AS_NO, NO);
     }
 
     private int full() {
-        return refuse(2, FULL);
+        return refuse(AS_FULL, FULL);
     }
 
     private static boolean within(int n, int low, int high) {
