@@ -3,8 +3,14 @@ final class Due {
     private static final int MOST_TOLD = 40;
     private static int asked = 0;
     private static int wrong = 0;
+    private static String sentence = "";
 
     private Due() {
+    }
+
+    /** The sentence of the document that the answers from here on belong to. */
+    static void sentence(String words) {
+        sentence = words + " | ";
     }
 
     static void due(String what, long got, long want) {
@@ -12,7 +18,7 @@ final class Due {
         if (got != want) {
             wrong++;
             if (wrong <= MOST_TOLD) {
-                System.out.println(what + " answered " + got + ", due is " + want);
+                System.out.println(sentence + what + " answered " + got + ", due is " + want);
             }
         }
     }
