@@ -22,6 +22,7 @@ public final class LawBoundsTest {
         leastOfLikeOnes();
         leastByTwineThatIsThere();
         leastOfTwoThatShare();
+        leastOfNoneShared();
         leastOfOneShared();
         leastOfTwoShared();
         leastOneBehindAnother();
@@ -368,6 +369,19 @@ public final class LawBoundsTest {
         x.wide(1, 18);
         dueLeast("just in reach", x, 0, 1, 5);
         dueRow("just in reach", x, 0, 1, 0, 1, 2, 4);
+    }
+
+    private static void leastOfNoneShared() {
+        Due.sentence("LEAST TWINE .. (two CLAUSES that share no KNOT)");
+        NetLaw x = new NetLaw();
+        x.tie(0, SHEET, 1, 0);
+        x.tie(15, REEF, 1, 0);
+        dueLeast("4 for the sheet, 8 for the reef", x, 0, 8, 12);
+        dueRow("4 for the sheet, 8 for the reef", x, 0, 8, 0, 4, 15, 8);
+        x.wide(8, 10);
+        dueLeast("out of reach for the reef", x, 0, 8, NO_MENDING);
+        x.wide(8, 1);
+        dueLeast("none for the reef", x, 0, 8, 4);
     }
 
     private static void leastOfOneShared() {
