@@ -2,7 +2,7 @@ import java.util.Random;
 
 /** Runs of calls drawn by fixed seeds, each answer and each digest against the slow model. */
 public final class ModelTest {
-    private static final int RUNS = 600, CALLS = 512;
+    private static final int RUNS = 600, CALLS = 512, NEAR_RUNS = 300, NEAR_ASKED = 12;
     private static final int[] EDGES = {-1, -2, 16, 9, 30, 31, 100, 511, 512, 65535, 65536,
         Integer.MAX_VALUE, Integer.MIN_VALUE, 1000000};
     private static final String[] WORDS = {"net", "knot", "wide", "rope", "ne", ";", " ", "  ", "7", "30", "123", "A", "-"};
@@ -29,7 +29,48 @@ public final class ModelTest {
                 Due.due("run " + run + ": status(" + what + ")", law.status(what), model.status(what));
             }
         }
+        for (int run = 0; run < NEAR_RUNS; run++) {
+            askNear("near run " + run + ": ", run);
+        }
         Due.end("ModelTest");
+    }
+
+    /** Nets whose clauses are nearly, or just, as wide as they hold: there the dear questions have most to weigh. */
+    private static void askNear(String at, int run) {
+        random = new Random(1000003L + run);
+        law = new NetLaw();
+        model = new Model();
+        int strongest = new int[] {2, 4, 6, 9}[random.nextInt(4)];
+        int rain = random.nextInt(2);
+        due(at, "rain", law.rain(rain), model.rain(rain), rain);
+        for (int k = 0; k < 16; k++) {
+            int kind = random.nextInt(3) == 0 ? 5 : random.nextInt(6);
+            int s = 1 + random.nextInt(strongest);
+            if (random.nextInt(8) > 0) {
+                due(at, "tie", law.tie(k, kind, s, 0), model.tie(k, kind, s, 0), k, kind, s, 0);
+            }
+        }
+        for (int c = 0; c < 9; c++) {
+            int wide = Math.max(0, Math.min(30, model.clause(c, 1) + random.nextInt(16) - 6));
+            due(at, "clause", law.clause(c, 1), model.clause(c, 1), c, 1);
+            due(at, "wide", law.wide(c, wide), model.wide(c, wide), c, wide);
+        }
+        for (int i = 0; i < NEAR_ASKED; i++) {
+            askOfTwo(at, random.nextInt(9), random.nextInt(9), 1 + random.nextInt(5));
+        }
+    }
+
+    private static void askOfTwo(String at, int a, int b, int m) {
+        for (int k = -1; k < 16; k++) {
+            due(at, "least", law.least(a, b, k), model.least(a, b, k), a, b, k);
+        }
+        for (int what = 0; what < 2; what++) {
+            due(at, "menders", law.menders(a, b, m, what), model.menders(a, b, m, what), a, b, m, what);
+            due(at, "holdsAll", law.holdsAll(what), model.holdsAll(what), what);
+        }
+        due(at, "dropped", law.dropped(a), model.dropped(a), a);
+        due(at, "odds", law.odds(b, m), model.odds(b, m), b, m);
+        due(at, "digest", law.digest(), model.digest());
     }
 
     private static void fillNet(int run) {
